@@ -1308,7 +1308,7 @@ public final class SealCasts {
             }
         }
 
-        boolean uses(int hand, int word) {
+        boolean isUsed(int hand, int word) {
             return hand >= 0 && hand < uses.length && (uses[hand] >> word & 1) != 0;
         }
 
@@ -1404,7 +1404,7 @@ public final class SealCasts {
         }
 
         boolean isHeatUsed(int hand) {
-            return rules.uses(hand, HEAT);
+            return rules.isUsed(hand, HEAT);
         }
 
         int handCount() {
@@ -1419,7 +1419,7 @@ public final class SealCasts {
             int from = turn(row, rules.width);
             int many = Integer.bitCount(from);
             int cases = setUp(hand, heat, draw);
-            if (rules.uses(hand, MANY) && many <= WIDTH_MOST) {
+            if (rules.isUsed(hand, MANY) && many <= WIDTH_MOST) {
                 cases += many * NEARS;
                 told[MANY] = many;
             }
@@ -1438,11 +1438,11 @@ public final class SealCasts {
 
         /** Gets the press of a HAND and HEAT ready; where its cases start. */
         private int setUp(int hand, int heat, int draw) {
-            int press = hand * HEATS + (rules.uses(hand, HEAT) ? heat : 0);
-            int now = rules.uses(hand, YEAR) ? court.yearNow * DRAWS : 0;
-            now += rules.uses(hand, DRAW) ? draw : 0;
+            int press = hand * HEATS + (rules.isUsed(hand, HEAT) ? heat : 0);
+            int now = rules.isUsed(hand, YEAR) ? court.yearNow * DRAWS : 0;
+            now += rules.isUsed(hand, DRAW) ? draw : 0;
             if (knownFor[press] != now) {
-                forget(press * CASES, rules.uses(hand, MANY) ? CASES : NEARS);
+                forget(press * CASES, rules.isUsed(hand, MANY) ? CASES : NEARS);
                 knownFor[press] = now;
             }
             told[YEAR] = court.yearNow;

@@ -4,7 +4,7 @@ import java.util.Random;
 
 /** Runs of drawn calls, on the class and on the plain model at once; every answer has to be the same. */
 public final class AgainstPlainTest {
-    private static final int RUNS = 1500;
+    private static final int RUNS = 1000;
     private static final int CALLS = 500;
     private static final String[] UNITS = {"mark", "has", "left", "right", "many", "year", "heat", "draw"};
     private static final String[] SCRAPS = {";", "(", ")", "<", ">", "=", "+", "-", "*", "/", "%", "or", "and", "not",
@@ -72,9 +72,9 @@ public final class AgainstPlainTest {
             text.append("marks ").append(width).append(";");
         }
         List<String> lines = new ArrayList<>();
-        int hands = upTo(rarely(4) ? 4 : 2);
+        int hands = rarely(10) ? 0 : 1 + upTo(rarely(4) ? 3 : 1);
         for (int hand = 0; hand < hands; hand++) {
-            lines.add("hand " + (char) ('a' + hand) + "x wears " + formula(3) + " fills " + formula(3) + ";");
+            lines.add("hand " + (char) ('a' + hand) + "x wears " + anyFormula() + " fills " + anyFormula() + ";");
         }
         if (!rarely(4)) {
             StringBuilder first = new StringBuilder("first");
@@ -85,14 +85,14 @@ public final class AgainstPlainTest {
             lines.add(first + ";");
         }
         if (!rarely(3)) {
-            lines.add("wax " + upTo(rarely(4) ? 9 : 400) + ";");
+            lines.add("wax " + upTo(rarely(6) ? 9 : 400) + ";");
         }
         if (rarely(2)) {
             lines.add("draw " + upTo(999) + ";");
         }
         java.util.Collections.shuffle(lines, random);
         text.append(String.join(rarely(3) ? " \n" : "", lines));
-        if (rarely(6)) {
+        if (rarely(calls.isEmpty() ? 40 : 2)) {
             spoil(text);
         }
         return text.toString();
@@ -109,6 +109,22 @@ public final class AgainstPlainTest {
                 text.insert(at, SCRAPS[random.nextInt(SCRAPS.length)]);
             }
         }
+    }
+
+    private String anyFormula() {
+        return rarely(2) ? formula(3) : mixed();
+    }
+
+    /** Formulas of everything at once, by which ROWS go far before they come round. */
+    private String mixed() {
+        StringBuilder sum = new StringBuilder("" + upTo(9));
+        for (String unit : UNITS) {
+            if (rarely(2)) {
+                sum.append(rarely(4) ? "-" : "+").append(unit).append("*").append(1 + upTo(6));
+            }
+        }
+        int by = 2 + upTo(3);
+        return "(" + sum + ")%" + by + (rarely(2) ? "<" : "=") + upTo(by - 1);
     }
 
     private String formula(int deep) {
@@ -202,7 +218,7 @@ public final class AgainstPlainTest {
             case 4: fact(); break;
             default: askFacts(); break;
         }
-        if (rarely(5)) {
+        if (rarely(60)) {
             for (int what = -1; what <= 14; what++) {
                 due("about(" + what + ")", real.about(what), plain.about(what));
             }
@@ -215,11 +231,11 @@ public final class AgainstPlainTest {
     private void act() {
         int s = seal();
         int h = hand();
-        int t = rarely(3) ? heat() : upTo(2);
+        int t = rarely(5) ? heat() : upTo(2);
         int m = drawn(plain.about(1) - 1);
         int what = drawn(4);
-        switch (random.nextInt(12)) {
-            case 0: case 1: case 2:
+        switch (random.nextInt(15)) {
+            case 0: case 1: case 2: case 12: case 13:
                 due("cast(" + s + "," + h + "," + t + ")", real.cast(s, h, t), plain.cast(s, h, t)); break;
             case 3: case 4: due("print(" + s + ")", real.print(s), plain.print(s)); break;
             case 5: due("crack(" + s + "," + m + ")", real.crack(s, m), plain.crack(s, m)); break;
@@ -242,7 +258,7 @@ public final class AgainstPlainTest {
             due("image(" + box + ")", real.image(box), plain.image(box));
         }
         // Many in a row, so that more are done or undone than are kept.
-        if (rarely(12)) {
+        if (rarely(150)) {
             boolean isBack = rarely(2);
             for (int i = 0; i < 45; i++) {
                 if (isBack) {
@@ -330,7 +346,7 @@ public final class AgainstPlainTest {
             case 4:
                 int p = drawn(7);
                 int o = drawn(7);
-                boolean odd = rarely(10) != ((p ^ o) % 2 != 0);
+                boolean odd = rarely(30) != ((p ^ o) % 2 != 0);
                 due("link(" + p + "," + o + "," + odd + ")", real.link(p, o, odd), plain.link(p, o, odd)); break;
             case 5:
                 int f = drawn(plain.about(9) - 1);
