@@ -39,6 +39,7 @@ public final class SealCasts {
     private static final int FALSES_SHOWN = 8;
     private static final int CASTS_IN_WAY = 4;
     private static final int HEATS_IN_WAY = 4;
+    /** More than any wax, MARKS or CHANGES that are counted. */
     private static final int FAR = 1000;
     private static final int LYING_MOST = 16;
 
@@ -1136,7 +1137,8 @@ public final class SealCasts {
 
         private void readFirst() {
             for (int i = 0; i <= WIDTH_MOST && fault == 0 && (i == 0 || kind == NUMBER); i++) {
-                if (kind == NUMBER && value < rules.width && (rules.firstRow >> value & 1) != 0) {
+                int mark = (int) value;
+                if (kind == NUMBER && mark < rules.width && (rules.firstRow >> mark & 1) != 0) {
                     fail(FAULT_TOLD_ALREADY);
                     return;
                 }
@@ -1423,10 +1425,12 @@ public final class SealCasts {
                 cases += many * NEARS;
                 told[MANY] = many;
             }
+            int width = rules.width;
+            int around = from << 1;
             int after = 0;
-            for (int mark = 0; mark < rules.width; mark++) {
+            for (int mark = 0; mark < width; mark++) {
                 // MARK m - 1, m and m + 1 as bits 0, 1 and 2.
-                int near = from << 1 >>> mark & 7;
+                int near = around >>> mark & 7;
                 int bit = 1 << mark;
                 if ((known[cases + near] & bit) == 0) {
                     learn(hand, cases, near, mark);
@@ -1921,7 +1925,7 @@ public final class SealCasts {
 
         void growFrom(int newRoot) {
             root = newRoot;
-            fewest = Integer.MAX_VALUE;
+            fewest = FAR;
             trees = 0;
             atLeast[size] = 0;
             for (int sample = size - 1; sample >= 0; sample--) {
