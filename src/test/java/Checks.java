@@ -1,18 +1,101 @@
+import java.io.IOException;
+import java.nio.file.Files;
+import java.nio.file.Path;
+import java.util.List;
+import java.util.TreeSet;
+import java.util.function.Consumer;
+import java.util.function.IntUnaryOperator;
+import java.util.function.Supplier;
+
 /** What the tests of the promises share: telling a text, comparing, and the end with its exit code. */
 final class Checks {
+    private static final Path DOCUMENT = Path.of("../shared/DOC.md");
+
     private final String name;
+    private final TreeSet<Integer> promises = new TreeSet<>();
     private int count = 0;
     private int wrong = 0;
+    private String document = "";
+    private int promise = 0;
+    private String sentence = "";
 
     Checks(String name) {
         this.name = name;
     }
 
+    /** From here on what is due is due by this sentence of the document (promise 0: of its Terms). */
+    void sentence(int ofPromise, String words) {
+        promise = ofPromise;
+        sentence = words;
+        promises.add(ofPromise);
+        if (!document().contains(words)) {
+            fail("the document does not say: " + words);
+        }
+    }
+
+    private String document() {
+        if (document.isEmpty()) {
+            try {
+                document = Files.readString(DOCUMENT).replaceAll("\\s+", " ");
+            } catch (IOException e) {
+                fail(DOCUMENT + " can't be read");
+            }
+        }
+        return document;
+    }
+
+    private void fail(String what) {
+        wrong++;
+        System.out.println(what);
+    }
+
+    void due(String call, int got, int want) {
+        int before = wrong;
+        due(promise, call, got, want);
+        if (wrong > before) {
+            System.out.println("    by: " + sentence);
+        }
+    }
+
+    void due(String call, boolean got, boolean want) {
+        due(call, got ? 1 : 0, want ? 1 : 0);
+    }
+
+    /** Numbers from least to most are taken, all others refused. */
+    void bounds(String call, IntUnaryOperator at, int least, int most, int refused) {
+        for (int number : new int[] {least - 1, most + 1, most + 32, Integer.MIN_VALUE, Integer.MAX_VALUE}) {
+            due(call + " with " + number, at.applyAsInt(number), refused);
+        }
+        for (int number = least; number <= most; number++) {
+            count++;
+            if (at.applyAsInt(number) == refused) {
+                fail("promise " + promise + ": " + call + " refuses " + number + "\n    by: " + sentence);
+            }
+        }
+    }
+
+    /** A call after which all later calls answer as they do without it. */
+    void leavesAll(String call, Supplier<SealCasts> making, Consumer<SealCasts> refused) {
+        SealCasts called = making.get();
+        refused.accept(called);
+        List<String> got = Later.answers(called);
+        List<String> want = Later.answers(making.get());
+        count++;
+        for (int i = 0; i < Math.max(got.size(), want.size()); i++) {
+            String one = i < got.size() ? got.get(i) : "nothing more";
+            String two = i < want.size() ? want.get(i) : "nothing more";
+            if (!one.equals(two)) {
+                fail("promise " + promise + ": behind " + call + " " + one + ", without it " + two
+                    + "\n    by: " + sentence);
+                return;
+            }
+        }
+    }
+
     void due(int promise, String call, int got, int want) {
         count++;
         if (got != want) {
-            wrong++;
-            System.out.println("promise " + promise + ": " + call + " answered " + got + ", due is " + want);
+            fail("promise " + promise + ": " + call + " answered " + got + ", due is " + want);
         }
     }
 
@@ -42,8 +125,7 @@ final class Checks {
         SealCasts x = new SealCasts();
         feedText(x, text);
         if (x.chancery() < 0) {
-            wrong++;
-            System.out.println("fault " + x.fault(0) + " at " + x.fault(1) + " in: " + text);
+            fail("fault " + x.fault(0) + " at " + x.fault(1) + " in: " + text);
         }
         return x;
     }
@@ -77,6 +159,16 @@ final class Checks {
         }
         due(49, "lies(" + numbers.length + ")", x.lies(numbers.length), -2);
         due(49, "lies(-1)", x.lies(-1), -2);
+    }
+
+    /** The end, if each of these promises had a sentence. */
+    void endOf(int... wanted) {
+        for (int each : wanted) {
+            if (!promises.contains(each)) {
+                fail("no sentence of promise " + each + " is tested");
+            }
+        }
+        end();
     }
 
     void end() {
