@@ -107,24 +107,32 @@ public final class AskEdgesTest {
 
     private static void drawIsNone() {
         CHECKS.sentence(0, "(Nothing is done; draw is 0.)");
-        // By a draw of 0 all stay; by another one all go or come. The SEED is 55 and the YEAR 1.
-        SealCasts x = CHECKS.told("marks 3;first 0 1;draw 55;hand a wears draw fills draw or year=0;");
-        x.year();
-        CHECKS.due("whose", x.whose(0, 0, 6), 1);
-        CHECKS.due("heats", x.heats(0, 0, 6), 1023);
-        CHECKS.due("fades", x.fades(0, 0, 0), -1);
-        CHECKS.due("forge", x.forge(0, 0, 0, 1, 1), 4);
-        CHECKS.due("round", x.round(0, 0, 0, 0), 2);
-        CHECKS.due("steady", x.steady(0, 0, 0), 8);
+        // By a draw of 0 all stay; by any other one all go by a, and all come by b. The SEED is 55.
+        SealCasts x = CHECKS.told("marks 3;first 0 1;draw 55;hand a wears draw fills 0;hand b wears 0 fills draw;hand c wears 0 fills 0;");
+        for (int hand = 0; hand < 2; hand++) {
+            CHECKS.due("heats", x.heats(0, hand, 6), 1023);
+            CHECKS.due("fades", x.fades(0, hand, 0), -1);
+            CHECKS.due("forge", x.forge(0, hand, 0, 1, 1), 4);
+            CHECKS.due("round", x.round(0, hand, 0, 0), 2);
+            CHECKS.due("round", x.round(0, hand, 0, 1), 2);
+            CHECKS.due("steady", x.steady(hand, 0, 0), 8);
+            CHECKS.due("steady", x.steady(hand, 0, 1), 7);
+            CHECKS.due("against", x.against(hand, 2, 0), 0);
+            CHECKS.due("against", x.against(2, hand, 0), 0);
+            // Behind asking by all draws it is 0 again.
+            x.luck(0, hand, 0, 0);
+            x.likely(0, hand, 0, 0);
+            x.would(3, hand, 0, 77);
+            CHECKS.due("whose", x.whose(0, 0, 6), 7);
+            x.would(3, hand, 0, 1);
+        }
+        CHECKS.due("wax of none", x.wax(7), -1);
         CHECKS.due("wax", x.wax(6), 1);
-        CHECKS.due("against", x.against(0, 0, 0), 0);
-        SealCasts y = CHECKS.told("marks 3;first 0 1;draw 55;hand a wears draw fills 0;hand b wears 0 fills 0;");
-        CHECKS.due("against", y.against(0, 1, 0), 0);
-        // Behind asking by all draws it is 0 again.
-        y.luck(0, 0, 0, 0);
-        y.likely(0, 0, 0, 0);
-        y.would(3, 0, 0, 77);
-        CHECKS.due("against", y.against(0, 1, 0), 0);
+        CHECKS.lies(35, x, 0, 0);
+        SealCasts y = CHECKS.told("marks 3;first 0 1;draw 55;hand a wears draw=1 fills draw=1;hand b wears 0 fills mark=2;");
+        // TURNED 6, and 3 of that by b with MARK 2: 7.
+        CHECKS.due("wax by two", y.wax(7), 2);
+        CHECKS.lies(35, y, 0, 0, 10);
     }
 
     // ---- Promises
@@ -270,6 +278,10 @@ public final class AskEdgesTest {
         // 6 has 34 draws, 5 and 3 have 33.
         CHECKS.due("one more goes ahead", y.likely(0, 1, 0, 0), 6);
         CHECKS.due("one more goes ahead", y.likely(0, 1, 0, 1), 34);
+        SealCasts least = CHECKS.told("marks 2;first 1;hand a wears draw<50 fills 0;hand b wears draw<40 fills 0;");
+        CHECKS.due("0 ahead of 1", least.likely(0, 0, 0, 0), 0);
+        CHECKS.due("1 with more", least.likely(0, 1, 0, 0), 1);
+        CHECKS.due("1 with more", least.likely(0, 1, 0, 1), 60);
         SealCasts wide = CHECKS.told("marks 12;first 0 1 2 3 4 5 6 7 8 9 10 11;hand a wears 0 fills 0;hand b wears 1 fills 0;");
         CHECKS.due("the greatest ROW", wide.likely(0, 0, 0, 0), 4095);
         CHECKS.due("the least ROW", wide.likely(0, 1, 0, 0), 0);
@@ -302,7 +314,9 @@ public final class AskEdgesTest {
         CHECKS.due("to and fro", x.fades(0, 0, 5), -1);
         SealCasts faded = CHECKS.told("marks 4;first 0 1;hand a wears 1 fills 0;hand b wears 1 fills 0;");
         faded.cast(0, 0, 0);
-        CHECKS.bounds("seal", seal -> faded.fades(seal, 0, 0), 0, 1, -1);
+        faded.cast(0, 1, 0);
+        faded.cast(2, 1, 0);
+        CHECKS.bounds("seal", seal -> faded.fades(seal, 0, 0), 0, 3, -1);
         CHECKS.bounds("hand", hand -> faded.fades(0, hand, 0), 0, 1, -1);
         CHECKS.bounds("heat", heat -> faded.fades(0, 0, heat), 0, 9, -1);
     }
@@ -511,7 +525,7 @@ public final class AskEdgesTest {
             }
         }
         SealCasts full = Busy.withAllSeals();
-        for (int row = 0; row < 16; row++) {
+        for (int row = 0; row < 16; row += 5) {
             CHECKS.due("of 24", full.nearest(row, 0), nearestOf(full, row));
         }
         SealCasts wide = CHECKS.told("marks 12;");
@@ -562,6 +576,20 @@ public final class AskEdgesTest {
         y.crack(1, 1);
         CHECKS.due("behind two CRACKS", y.common(1), 5);
         CHECKS.due("PRINTS stay as they were made", y.common(2), 4);
+        // MARKS that one has alone, be it the first, the last or another one.
+        SealCasts z = CHECKS.told("marks 3;first 0 1;hand a wears 1 fills heat=mark;hand b wears 0 fills 0;");
+        z.cast(0, 0, 0);
+        z.cast(0, 1, 0);
+        z.cast(0, 0, 2);
+        // TURNED 6 and worn: 1; TURNED: 6; TURNED 6 and worn, MARK 2 was there: 0.
+        CHECKS.due("some", z.common(1), 7);
+        CHECKS.due("all", z.common(0), 0);
+        z.print(2);
+        z.print(0);
+        // 3 and 6, and 3 once more.
+        CHECKS.due("of both PRINTS", z.common(2), 2);
+        z.print(2);
+        CHECKS.due("of three PRINTS", z.common(2), 2);
         CHECKS.sentence(29, "NONE for another what.");
         CHECKS.bounds("what", y::common, 0, 2, -1);
     }
@@ -846,6 +874,13 @@ public final class AskEdgesTest {
         SealCasts colder = CHECKS.told("marks 4;first 0;hand a wears heat fills left or heat=1 and mark<2;");
         CHECKS.due("twice at HEAT 0", colder.wax(3), 2);
         CHECKS.lies(35, colder, 0, 0, 0);
+        // Of what costs as much, what takes five CASTS or HEAT 4 is no way, though it would be the first.
+        SealCasts five = CHECKS.told("marks 6;first 0 1 2 3 4 5;hand a wears not left fills 0;hand b wears mark<3 or heat-1 fills 0;");
+        CHECKS.due("three of HAND 0, one of HAND 1", five.wax(8), 5);
+        CHECKS.lies(35, five, 0, 0, 0, 0, 11);
+        SealCasts four = CHECKS.told("marks 2;hand a wears 0 fills heat=4;hand b wears 0 fills heat=3 and mark=0 or many=1;");
+        CHECKS.due("at HEAT 3 and HEAT 0", four.wax(3), 5);
+        CHECKS.lies(35, four, 0, 13, 10);
         // In the second CAST as in the first.
         SealCasts second = CHECKS.told("marks 4;first 0;hand a wears 0 fills heat=3 and mark=3;hand b wears 0 fills many=1 and mark=1;"
             + "hand c wears 0 fills many=1 and mark=1;");

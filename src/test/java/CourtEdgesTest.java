@@ -10,6 +10,7 @@ public final class CourtEdgesTest {
         neighboursAtTheEnds();
         manyOfNoneAndOfAll();
         yearHeatAndDraw();
+        allAtOnce();
         wrapping();
         byZero();
         relations();
@@ -132,6 +133,74 @@ public final class CourtEdgesTest {
         // The SEED is 44 and not 0; where no draw is told, it is 0.
         CHECKS.due("draw 0 for HEATS", x.heats(0, 3, 1), 1023);
         CHECKS.due("draw 0 for WHOSE", x.whose(0, 0, 1), 8);
+    }
+
+    /** What comes of one MARK, HEAT, YEAR, draw or HAND is nothing to another one, in whatever order they are asked. */
+    private static void allAtOnce() {
+        CHECKS.sentence(0, "each MARK by what was there ahead of the CAST");
+        StringBuilder text = new StringBuilder("marks 12;");
+        for (int hand = 0; hand < 2; hand++) {
+            text.append("hand ").append((char) ('a' + hand)).append(" wears ").append(sum(hand)).append("%3=0 fills ")
+                .append(sum(hand)).append("%4=1;");
+        }
+        SealCasts x = CHECKS.told(text.toString());
+        int asked = 0;
+        for (int year = 0; year < 3; year++) {
+            for (int row = 0; row < 4096; row = 2 * row + 1) {
+                for (int each = 0; each < 4; each++) {
+                    int hand = each % 2;
+                    int heat = asked * 7 % 10;
+                    int draw = asked % 5 == 0 ? 0 : asked * 37 % 100;
+                    CHECKS.due("would(" + row + ", " + hand + ", " + heat + ", " + draw + ")",
+                        x.would(row, hand, heat, draw), castOf(row, hand, year, heat, draw));
+                    asked++;
+                }
+            }
+            x.year();
+        }
+        // A HAND that knows the YEAR and the draw apart, where both together are as much.
+        SealCasts y = CHECKS.told("marks 1;hand a wears 0 fills draw-year=1;hand b wears 0 fills draw;");
+        CHECKS.due("YEAR 0, draw 1", y.would(0, 0, 0, 1), 1);
+        y.year();
+        CHECKS.due("YEAR 1, draw 0", y.would(0, 0, 0, 0), 0);
+        CHECKS.due("YEAR 1, draw 2", y.would(0, 0, 0, 2), 1);
+        y.undo();
+        CHECKS.due("YEAR 0, draw 3", y.would(0, 0, 0, 3), 0);
+        // Every HEAT with every number of MARKS.
+        SealCasts z = CHECKS.told("marks 12;hand a wears (many+heat)%2 fills (many+heat)%3=0;hand b wears (many*heat)%2 fills (many+heat)%5=0;");
+        for (int heat = 9; heat >= 0; heat--) {
+            for (int many = 12; many >= 0; many--) {
+                int row = (1 << many) - 1;
+                int there = 4095 & ~(4095 >> many);
+                int stay = (many + heat) % 2 == 0 ? there : 0;
+                int come = (many + heat) % 3 == 0 ? 4095 & ~there : 0;
+                CHECKS.due("many " + many + ", HEAT " + heat, z.would(row, 0, heat, 0), stay | come);
+                stay = many * heat % 2 == 0 ? there : 0;
+                come = (many + heat) % 5 == 0 ? 4095 & ~there : 0;
+                CHECKS.due("many " + many + ", HEAT " + heat, z.would(row, 1, heat, 0), stay | come);
+            }
+        }
+    }
+
+    private static String sum(int hand) {
+        return "(" + hand + "+mark*2+has+left*5+right*7+many*3+year*11+heat*13+draw*17)";
+    }
+
+    private static int castOf(int row, int hand, int year, int heat, int draw) {
+        int from = 0;
+        for (int mark = 0; mark < 12; mark++) {
+            from |= (row >> mark & 1) << 11 - mark;
+        }
+        int after = 0;
+        for (int mark = 0; mark < 12; mark++) {
+            int has = from >> mark & 1;
+            int left = mark == 0 ? 0 : from >> mark - 1 & 1;
+            int right = from >> mark + 1 & 1;
+            int sum = hand + mark * 2 + has + left * 5 + right * 7 + Integer.bitCount(row) * 3 + year * 11 + heat * 13 + draw * 17;
+            boolean isThere = has == 1 ? sum % 3 != 0 : sum % 4 == 1;
+            after |= isThere ? 1 << mark : 0;
+        }
+        return after;
     }
 
     private static void value(String formula, int want) {
@@ -456,33 +525,40 @@ public final class CourtEdgesTest {
             CHECKS.due("the YEAR", x.about(5), many - 2);
             CHECKS.due("the ROW", x.seal(0, 0), 4);
         }
-        // Every sort of ACT, with the oldest gone, is taken back as it was.
-        SealCasts y = CHECKS.told("first 0 1 2 3 4 5 6 7;wax 999;draw 3;hand a wears 0 fills draw%3=mark;");
+        // Every sort of ACT, with the oldest gone, is taken back as it was, and done again.
         int[][] states = new int[49][];
-        states[0] = state(y);
-        for (int i = 1; i < 49; i++) {
-            if (i % 4 == 0) {
-                y.cast((i - 1) / 4, 0, i % 7);
-            } else if (i % 4 == 1) {
-                y.print(i / 4);
-            } else if (i % 4 == 2) {
-                y.year();
-            } else if (!y.crack(i / 4, i / 4 % 8)) {
-                y.year();
-            }
-            states[i] = state(y);
+        for (int i = 0; i < 49; i++) {
+            states[i] = state(manyActs(i));
         }
-        for (int i = 47; i >= 9; i--) {
-            y.undo();
-            same("state " + i, state(y), states[i]);
+        SealCasts back = manyActs(48);
+        for (int i = 47; i >= 8; i--) {
+            CHECKS.due("one more", back.undo(), true);
+            same("state " + i, state(back), states[i]);
         }
-        CHECKS.due("the last that is kept", y.undo(), true);
-        CHECKS.due("none more", y.undo(), false);
+        CHECKS.due("none more", back.undo(), false);
+        SealCasts on = manyActs(48);
+        for (int i = 47; i >= 8; i--) {
+            on.undo();
+        }
         for (int i = 9; i < 49; i++) {
-            y.redo();
-            same("state " + i + " again", state(y), states[i]);
+            CHECKS.due("one more again", on.redo(), true);
+            same("state " + i + " again", state(on), states[i]);
         }
-        CHECKS.due("none more", y.redo(), false);
+        CHECKS.due("none more again", on.redo(), false);
+    }
+
+    private static SealCasts manyActs(int many) {
+        SealCasts x = CHECKS.told("first 0 1 2 3 4 5 6 7;wax 999;draw 3;hand a wears 0 fills draw%3=mark;");
+        for (int i = 1; i <= many; i++) {
+            if (i % 4 == 0) {
+                x.cast((i - 1) / 4, 0, i % 7);
+            } else if (i % 4 == 1) {
+                x.print(i / 4);
+            } else if (i % 4 == 2 || !x.crack(i / 4, i / 4 % 8)) {
+                x.year();
+            }
+        }
+        return x;
     }
 
     private static int[] state(SealCasts x) {
@@ -758,7 +834,7 @@ public final class CourtEdgesTest {
         CHECKS.due("once more", x.undo(), false);
         CHECKS.leavesAll("undo() of none", () -> {
             SealCasts y = Busy.object();
-            while (y.about(7) > 0) {
+            for (int i = 0; i < 5; i++) {
                 y.undo();
             }
             return y;
@@ -794,9 +870,8 @@ public final class CourtEdgesTest {
         CHECKS.due("once more", x.redo(), false);
         CHECKS.leavesAll("redo() of none", () -> {
             SealCasts y = Busy.object();
-            while (y.about(8) > 0) {
-                y.redo();
-            }
+            y.redo();
+            y.redo();
             return y;
         }, SealCasts::redo);
         // What is no ACT leaves what can be redone, and so does an ACT that is refused.
@@ -860,6 +935,52 @@ public final class CourtEdgesTest {
         full.back(1);
         CHECKS.due("all PRINTS", full.about(3), 40);
         CHECKS.due("the last", full.shown(39, 1), 1);
+        // Others in the place of those that were kept do not change these.
+        SealCasts other = twoBranches();
+        other.image(0);
+        for (int i = 0; i < 6; i++) {
+            other.undo();
+        }
+        other.year();
+        other.year();
+        other.year();
+        other.cast(0, 1, 1);
+        other.cast(0, 0, 2);
+        other.print(2);
+        other.print(0);
+        other.image(2);
+        CHECKS.due("back(0)", other.back(0), 3);
+        other.image(1);
+        SealCasts kept = twoBranches();
+        for (int seal = 0; seal < 3; seal++) {
+            for (int what = 0; what < 5; what++) {
+                CHECKS.due("seal(" + seal + ", " + what + ")", other.seal(seal, what), kept.seal(seal, what));
+            }
+        }
+        for (int print = 0; print < 2; print++) {
+            for (int what = 0; what < 3; what++) {
+                CHECKS.due("shown(" + print + ", " + what + ")", other.shown(print, what), kept.shown(print, what));
+            }
+        }
+        other.back(2);
+        int[] want = {14, 0, 0, 3, 1};
+        for (int what = 0; what < 5; what++) {
+            CHECKS.due("seal(2, " + what + ") of the other BOX", other.seal(2, what), want[what]);
+        }
+        CHECKS.due("shown(0, 1) of the other BOX", other.shown(0, 1), 2);
+        CHECKS.due("shown(0, 2) of the other BOX", other.shown(0, 2), 3);
+    }
+
+    /** SEAL 1 of 0, SEAL 2 of 1 a YEAR later, each with a PRINT. */
+    private static SealCasts twoBranches() {
+        SealCasts x = CHECKS.told("marks 4;first 0 1;hand a wears 0 fills mark=1;hand b wears mark=0 fills 0;");
+        x.cast(0, 0, 0);
+        x.print(1);
+        x.year();
+        x.cast(1, 1, 0);
+        x.print(2);
+        x.crack(0, 1);
+        return x;
     }
 
     private static void imageRefused() {

@@ -186,7 +186,7 @@ public final class CourtPromisesTest {
         x.cast(1, 0, 0);
         int[] all = state(x);
         int steps = 0;
-        while (x.undo()) {
+        while (steps < 99 && x.undo()) {
             steps++;
             CHECKS.due(52, "about(8)", x.about(8), steps);
             CHECKS.due(52, "about(7)", x.about(7), 5 - steps);
@@ -241,14 +241,14 @@ public final class CourtPromisesTest {
         }
         CHECKS.due(15, "about(7)", x.about(7), 40);
         int steps = 0;
-        while (x.undo()) {
+        while (steps < 99 && x.undo()) {
             steps++;
         }
         CHECKS.due(15, "steps", steps, 40);
         CHECKS.due(15, "the oldest are gone", x.seal(0, 0), 0b11111000);
         CHECKS.due(15, "the YEAR", x.about(5), 0);
         CHECKS.due(52, "about(8)", x.about(8), 40);
-        while (x.redo()) {
+        while (steps > -99 && x.redo()) {
             steps--;
         }
         CHECKS.due(16, "steps", steps, 0);

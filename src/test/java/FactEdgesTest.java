@@ -15,6 +15,7 @@ public final class FactEdgesTest {
         countsAtSights();
         countsAtLinks();
         untoldAtTheSameTime();
+        eachSortForItself();
         sample();
         claim();
         saw();
@@ -162,6 +163,42 @@ public final class FactEdgesTest {
         for (int k : new int[] {4, 5, 6, MAX}) {
             CHECKS.due("never known, at " + k, x.origin(0, k), 0);
         }
+    }
+
+    private static void eachSortForItself() {
+        CHECKS.sentence(0, "a SAMPLE (a ROW, backward or not); a CLAIM: that a ROW is the PRINT of a SEAL, in a YEAR; "
+            + "a SIGHT: that a MARK was there in a YEAR, or not; a LINK: that two PAPERS (0 .. 7) are TURNED to one another, or not.");
+        onlyOne(x -> x.sample(1, true), "SAMPLE");
+        onlyOne(x -> x.sample(2, false), "SAMPLE");
+        onlyOne(x -> x.claim(1, 0, 1), "CLAIM");
+        onlyOne(x -> x.claim(2, 0, 0), "CLAIM");
+        onlyOne(x -> x.saw(0, 1, true), "SIGHT");
+        onlyOne(x -> x.saw(1, 0, false), "SIGHT");
+        onlyOne(x -> x.saw(1, 0, true), "SIGHT");
+        onlyOne(x -> x.link(0, 1, true), "LINK");
+        onlyOne(x -> x.link(1, 0, true), "LINK");
+        onlyOne(x -> x.link(1, 2, false), "LINK");
+    }
+
+    /** A FACT is something to what is asked of its sort, and nothing to what is asked of another one. */
+    private static void onlyOne(Consumer<SealCasts> telling, String sort) {
+        SealCasts x = CHECKS.told("marks 4;");
+        telling.accept(x);
+        CHECKS.due("SAMPLES, by a " + sort, x.clans(0, 0, 0), sort.equals("SAMPLE") ? 1 : 0);
+        CHECKS.due("ORIGIN, by a " + sort, x.origin(0, 0) != 0, sort.equals("SAMPLE"));
+        CHECKS.due("a root, by a " + sort, x.tree(0, 0, 0), sort.equals("SAMPLE") ? 0 : -1);
+        CHECKS.due("a CENTRE, by a " + sort, x.centre(0, 0), sort.equals("SAMPLE") ? 0 : -1);
+        CHECKS.due("FALSE, by a " + sort, x.falses(0), sort.equals("CLAIM") ? 1 : 0);
+        int years = 0;
+        for (int mark = 0; mark < 4; mark++) {
+            years += x.span(mark, 2, 0);
+        }
+        CHECKS.due("SPAN, by a " + sort, years < 4000, sort.equals("SIGHT"));
+        boolean known = x.backward(1, 0) != -1;
+        // A LINK between 1 and 2 tells nothing of PAPER 0, but with another one it does.
+        x.link(0, 2, true);
+        known |= x.backward(1, 0) != -1;
+        CHECKS.due("BACKWARD, by a " + sort, known, sort.equals("LINK"));
     }
 
     // ---- telling and untelling
@@ -386,6 +423,32 @@ public final class FactEdgesTest {
             CHECKS.due("CHANGES of " + many, x.tree(0, 0, 0), 0);
             CHECKS.lies(42, x, from);
         }
+        // Fewer SAMPLES behind more of them, and more behind fewer.
+        SealCasts known = CHECKS.told("marks 4;");
+        known.sample(6, false);
+        known.sample(6, false);
+        known.sample(6, false);
+        known.later(1);
+        for (int row : new int[] {15, 0, 9, 8}) {
+            known.sample(row, false);
+        }
+        int changes = known.tree(0, 0, 1);
+        int trees = known.tree(0, 1, 1);
+        CHECKS.due("CHANGES of three", known.tree(1, 0, 0), 0);
+        CHECKS.lies(42, known, 1, -1, 0);
+        CHECKS.due("TREES of three", known.tree(1, 1, 0), 3);
+        CHECKS.due("CHANGES of seven again", known.tree(0, 0, 1), changes);
+        CHECKS.due("TREES of seven again", known.tree(0, 1, 1), trees);
+        // 15 comes from a 6 by 4, 9 from 15 by 2, 8 from 9 by 1, 0 from 8 by 1.
+        CHECKS.due("CHANGES of seven", changes, 8);
+        CHECKS.due("TREES of seven", trees, 3 * 3);
+        // 0 comes from 15 by 4, which is 8 the other way; it may be told first or last.
+        SealCasts last = samples(4, 15, 15, 15, 0);
+        CHECKS.due("TREES", last.tree(0, 1, 0), 3 * 3);
+        CHECKS.due("CHANGES", last.tree(0, 0, 0), 4);
+        SealCasts first = samples(4, 0, 15, 15, 15);
+        CHECKS.due("TREES", first.tree(1, 1, 0), 3 * 3);
+        CHECKS.due("CHANGES", first.tree(1, 0, 0), 4);
         // From 0 to 1 and to 8 it is 2, from 1 to 8 and back nothing: two TREES.
         SealCasts two = samples(4, 0, 1, 8);
         CHECKS.due("two TREES", two.tree(0, 1, 0), 2);

@@ -6,6 +6,9 @@ import java.util.List;
  * nothing, then undoes, redoes, goes back to each BOX and reads the TAPE, which uses the object up.
  */
 final class Later {
+    /** An object is used for at most 512 calls, so not every step is looked at. */
+    private static final int STEPS_SHOWN = 5;
+
     private final SealCasts x;
     private final List<String> answers = new ArrayList<>();
 
@@ -82,8 +85,13 @@ final class Later {
         lying("behind tell");
         say("wax(2)", x.wax(2));
         lying("behind wax");
+        int all = (1 << x.about(1)) - 1;
         for (int hand = 0; hand < x.about(0); hand++) {
-            say("would(1, " + hand + ", 3, 41)", x.would(1, hand, 3, 41));
+            for (int row : new int[] {0, 1, all}) {
+                say("would(" + row + ", " + hand + ", 0, 1)", x.would(row, hand, 0, 1));
+                say("would(" + row + ", " + hand + ", 3, 41)", x.would(row, hand, 3, 41));
+                say("would(" + row + ", " + hand + ", 9, 0)", x.would(row, hand, 9, 0));
+            }
         }
         say("common(1)", x.common(1));
         say("common(2)", x.common(2));
@@ -99,17 +107,27 @@ final class Later {
 
     private void undone() {
         for (int i = 0; i < 40 && x.undo(); i++) {
-            step("undo");
+            if (i < STEPS_SHOWN) {
+                step("undo");
+            }
         }
+        step("all undone");
         for (int i = 0; i < 40 && x.redo(); i++) {
-            step("redo");
+            if (i < STEPS_SHOWN) {
+                step("redo");
+            }
         }
+        step("all redone");
     }
 
     private void boxes() {
         for (int box = 0; box < 3; box++) {
-            say("back(" + box + ")", x.back(box));
-            step("back(" + box + ")");
+            int seals = x.back(box);
+            say("back(" + box + ")", seals);
+            if (seals >= 0) {
+                step("back(" + box + ")");
+                court();
+            }
         }
     }
 

@@ -39,6 +39,7 @@ public final class TextEdgesTest {
         endRefused();
         chanceryTakesTheTape();
         chanceryBeginsAnew();
+        oneChanceryBehindAnother();
         chanceryKeepsTheTime();
         chanceryWithFault();
         fault();
@@ -720,6 +721,71 @@ public final class TextEdgesTest {
         CHECKS.due("a FACT is number 0 again", x.sample(1, false), 0);
         CHECKS.due("a PRINT is number 0 again", x.print(0), 0);
         CHECKS.due("its YEAR", x.shown(0, 2), 0);
+    }
+
+    /** Whatever was told and done ahead of it, all is as if a CHANCERY were the first. */
+    private static void oneChanceryBehindAnother() {
+        CHECKS.sentence(4, "The TAPE (empty then) is the CHANCERY");
+        String[] texts = {"", "wax 0;", "marks 3;first 1;", "draw 777;hand c wears 0 fills 1;",
+            "marks 12;first 0 11;hand a wears many>6 fills many=0;hand b wears heat fills draw and year;wax 999;draw 999;",
+            "marks 5;first 0 4;hand a wears 0 fills left;hand b wears 1 fills right;hand c wears mark fills 0;"
+                + "hand d wears 0 fills heat=mark;draw 5;",
+            "hand a wears " + ones(29) + "-29 fills " + ones(28) + "-28;hand b wears " + ones(27) + "-27 fills 1;",
+            "marks 2;hand a wears draw fills draw=1;", "marks 2;hand a wears 0 fills heat=9;",
+            "marks 12;hand z wears many=12 fills many=1;hand a wears 0 fills year=0;"};
+        for (String one : texts) {
+            for (String two : texts) {
+                for (String last : texts) {
+                    SealCasts x = new SealCasts();
+                    tellAndUse(x, one);
+                    tellAndUse(x, two);
+                    Checks.feedText(x, last);
+                    x.chancery();
+                    CHECKS.alike("told " + one + " and " + two + " ahead of " + last + ":", x, CHECKS.told(last));
+                }
+            }
+        }
+        // Whatever is asked first.
+        for (int draw = 0; draw < 3; draw++) {
+            SealCasts x = CHECKS.told("marks 2;hand a wears 0 fills 1;");
+            x.would(0, 0, 0, 0);
+            x.would(1, 0, 0, 0);
+            Checks.feedText(x, "marks 2;hand a wears draw fills draw=1;");
+            x.chancery();
+            CHECKS.due("by draw " + draw, x.would(1, 0, 0, draw), new int[] {2, 1, 0}[draw]);
+        }
+        // A text with a FAULT between them is nothing to the next one.
+        for (String wrong : new String[] {"marks 2;first 1;hand c wears 1 fills 1;wax", "hand a wears 1 fills ", "draw 3;wax 7;!"}) {
+            for (String one : texts) {
+                for (String last : texts) {
+                    SealCasts x = new SealCasts();
+                    tellAndUse(x, one);
+                    Checks.feedText(x, wrong);
+                    x.chancery();
+                    x.end(0);
+                    Checks.feedText(x, last);
+                    x.chancery();
+                    CHECKS.alike("told " + one + " and " + wrong + " ahead of " + last + ":", x, CHECKS.told(last));
+                }
+            }
+        }
+    }
+
+    private static void tellAndUse(SealCasts x, String text) {
+        Checks.feedText(x, text);
+        x.chancery();
+        for (int hand = 0; hand < 4; hand++) {
+            for (int row : new int[] {0, 1, 3, (1 << x.about(1)) - 1}) {
+                x.would(row, hand, 0, 0);
+                x.would(row, hand, 3, 0);
+                x.would(row, hand, 9, 0);
+            }
+            x.cast(0, hand, 3);
+        }
+        x.print(0);
+        x.image(0);
+        x.sample(1, true);
+        x.tell();
     }
 
     private static void chanceryKeepsTheTime() {
