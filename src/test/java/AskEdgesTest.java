@@ -681,7 +681,41 @@ public final class AskEdgesTest {
             CHECKS.lies(31, x, all);
         }
         SealCasts full = Busy.withAllSeals();
-        CHECKS.due("of 24 SEALS with 4 MARKS", full.tell() <= 4, true);
+        int best = fewestOf(full);
+        CHECKS.due("of 24 SEALS with 4 MARKS", full.tell(), Integer.bitCount(best));
+        int marks = 0;
+        for (int i = 0; i < full.about(13); i++) {
+            marks |= 1 << full.lies(i);
+        }
+        CHECKS.due("the MARKS as bits", marks, best);
+        // The last of 24 alone is unlike the others.
+        SealCasts last = CHECKS.told("marks 12;hand a wears 0 fills 0;hand b wears 0 fills mark=11;");
+        for (int seal = 1; seal < 24; seal++) {
+            last.cast(0, seal == 23 ? 1 : 0, 0);
+        }
+        CHECKS.due("by the last MARK", last.tell(), 1);
+        CHECKS.lies(31, last, 11);
+    }
+
+    /** The fewest MARKS that tell all apart, of like ones the least, found by trying all. */
+    private static int fewestOf(SealCasts x) {
+        int[] rows = new int[x.about(2)];
+        for (int seal = 0; seal < rows.length; seal++) {
+            rows[seal] = x.seal(seal, 0);
+        }
+        int best = -1;
+        for (int marks = 0; marks < 1 << 4; marks++) {
+            boolean tells = true;
+            for (int one : rows) {
+                for (int two : rows) {
+                    tells &= one == two || (one & marks) != (two & marks);
+                }
+            }
+            if (tells && (best < 0 || Integer.bitCount(marks) < Integer.bitCount(best))) {
+                best = marks;
+            }
+        }
+        return best;
     }
 
     private static void round() {
@@ -823,6 +857,16 @@ public final class AskEdgesTest {
             }
             row = x.would(row, 0, 0, 0);
         }
+        CHECKS.sentence(0, "from one of the SEALS");
+        SealCasts full = CHECKS.told("marks 12;hand a wears 0 fills 0;hand b wears 0 fills mark<3;");
+        for (int seal = 1; seal < 24; seal++) {
+            full.cast(0, seal == 23 ? 1 : 0, 0);
+        }
+        CHECKS.due("from the last of 24", full.wax(7 << 9), 1);
+        CHECKS.lies(35, full, 23, 0);
+        full.undo();
+        CHECKS.due("from the first", full.wax(7 << 9), 2);
+        CHECKS.lies(35, full, 0, 10, 0);
         // From a SEAL behind one CAST it is one less.
         x.cast(0, 0, 0);
         CHECKS.due("behind one and four", x.wax(8), 4);
