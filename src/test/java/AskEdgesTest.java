@@ -735,6 +735,21 @@ public final class AskEdgesTest {
         SealCasts y = CHECKS.told("marks 4;first 0;hand a wears mark=0 or left fills left;");
         CHECKS.due("eight", y.round(0, 0, 0, 0), 8);
         CHECKS.due("seven fewer", y.round(0, 0, 0, 1), 7);
+        // At every WIDTH, all worn or the last MARK alone worn when it is TURNED to be the first.
+        for (int width = 1; width <= 12; width++) {
+            SealCasts wide = CHECKS.told("marks " + width + ";first " + (width - 1) + ";hand a wears 0 fills 0;hand b wears mark=0 fills 0;");
+            CHECKS.due("to and fro at " + width, wide.round(0, 0, 0, 0), width == 1 ? 1 : 2);
+            CHECKS.due("to and fro at " + width, wide.round(0, 0, 0, 1), width == 1 ? 1 : 2);
+            CHECKS.due("gone at " + width, wide.round(0, 1, 0, 0), 2);
+            CHECKS.due("gone at " + width, wide.round(0, 1, 0, 1), 1);
+            CHECKS.due("gone at " + width, wide.fades(0, 1, 0), 1);
+        }
+        // A narrow CHANCERY behind a wide one, of which every ROW was asked for.
+        SealCasts narrow = CHECKS.told("marks 12;first 0 5;hand a wears 0 fills 0;");
+        narrow.steady(0, 0, 0);
+        Checks.feedText(narrow, "marks 2;first 0;hand a wears 0 fills 0;");
+        narrow.chancery();
+        CHECKS.due("behind a wide one", narrow.round(0, 0, 0, 0), 2);
         // The same in other words: step by step, by what each CAST would be.
         for (int seal = 0; seal < 8; seal++) {
             SealCasts z = CHECKS.told("marks 9;first " + seal + ";hand a wears (left+right+mark)%2 fills (left+right*2+many)%3;");

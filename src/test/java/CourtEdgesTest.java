@@ -280,6 +280,12 @@ public final class CourtEdgesTest {
         value("not not 7", 1);
         value("(1<2)+(2<3)", 2);
         value("(7 and 9)+(7 or 9)+(not 0)", 3);
+        // As much at once as 30 units can hold back: each of five parts waits for what is in the next ( e ).
+        String deep = "0 or 1 and 1<1+1*";
+        deepest(deep + "1", 1);
+        deepest(deep + "0", 0);
+        deepest((deep + "(").repeat(4) + deep + "1))))", 1);
+        deepest((deep + "(").repeat(4) + deep + "0))))", 0);
         // How they bind, and that like ones go from the left.
         value("1 or 0 and 0", 1);
         value("(1 or 0) and 0", 0);
@@ -296,6 +302,11 @@ public final class CourtEdgesTest {
         value("9%5*7", 28);
         value("3<2+2", 1);
         value("3+2>2*2", 1);
+    }
+
+    private static void deepest(String formula, int want) {
+        SealCasts x = CHECKS.told("marks 1;hand a wears 0 fills " + formula + ";");
+        CHECKS.due(formula, x.would(0, 0, 0, 0), want);
     }
 
     private static void staysAndComes() {

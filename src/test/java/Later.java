@@ -95,6 +95,21 @@ final class Later {
         }
         say("common(1)", x.common(1));
         say("common(2)", x.common(2));
+        for (int hand = 0; hand < x.about(0); hand++) {
+            byHand(hand);
+        }
+    }
+
+    private void byHand(int hand) {
+        String by = " by HAND " + hand;
+        for (int what = 0; what < 2; what++) {
+            say("round " + what + by, x.round(0, hand, 0, what));
+            say("steady " + what + by, x.steady(hand, 0, what));
+            say("likely " + what + by, x.likely(0, hand, 0, what));
+        }
+        say("fades" + by, x.fades(0, hand, 0));
+        say("forge" + by, x.forge(0, hand, 0, 1, 1));
+        say("against" + by, x.against(hand, 0, 0));
     }
 
     private void step(String call) {

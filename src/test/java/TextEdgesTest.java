@@ -56,6 +56,13 @@ public final class TextEdgesTest {
         CHECKS.due("draw from its last bytes", x.about(6), 7);
         CHECKS.fault("wax 5;" + " ".repeat(1593) + "!", 1, 1599);
         CHECKS.fault(" ".repeat(1595) + "wax 5", 2, 1600);
+        CHECKS.fault(" ".repeat(1597) + "wax", 2, 1600);
+        CHECKS.fault("\n".repeat(1599) + "!", 1, 1599);
+        CHECKS.fault(" ".repeat(1599) + ";", 2, 1599);
+        CHECKS.fault(" ".repeat(1599) + "a", 2, 1599);
+        CHECKS.fault(" ".repeat(1599) + "5", 2, 1599);
+        CHECKS.fault(";".repeat(1600), 2, 0);
+        CHECKS.fine(" ".repeat(1600), 0, 0);
         StringBuilder full = new StringBuilder("marks 12;first 0;");
         while (full.length() < 1577) {
             full.append(" \n");
@@ -484,6 +491,23 @@ public final class TextEdgesTest {
         x.end(5);
         CHECKS.due("chancery()", x.chancery(), -1);
         CHECKS.due("fault(1)", x.fault(1), 5);
+        // A word or an N that is cut ends there, whatever stood behind it on the TAPE.
+        cut("firstx", 5, 2, 5);
+        cut("first 0", 4, 2, 0);
+        cut("marks 123", 8, 2, 8);
+        cut("wax 5a", 5, 2, 5);
+        cut("wax 12345", 8, 4, 4);
+        cut("hand abcdefghi", 13, 2, 13);
+        cut("wax 5;!", 6, 0, -1);
+    }
+
+    private static void cut(String text, int n, int fault, int place) {
+        SealCasts x = new SealCasts();
+        Checks.feedText(x, text);
+        x.end(n);
+        x.chancery();
+        CHECKS.due("fault(0) of " + text + " cut at " + n, x.fault(0), fault);
+        CHECKS.due("fault(1) of " + text + " cut at " + n, x.fault(1), place);
     }
 
     private static void leastAtOnePlace() {
@@ -732,6 +756,7 @@ public final class TextEdgesTest {
                 + "hand d wears 0 fills heat=mark;draw 5;",
             "hand a wears " + ones(29) + "-29 fills " + ones(28) + "-28;hand b wears " + ones(27) + "-27 fills 1;",
             "marks 2;hand a wears draw fills draw=1;", "marks 2;hand a wears 0 fills heat=9;",
+            "marks 2;hand a wears 1 fills not 0;", "marks 2;hand a wears 1 fills 0;",
             "marks 12;hand z wears many=12 fills many=1;hand a wears 0 fills year=0;"};
         for (String one : texts) {
             for (String two : texts) {
@@ -780,6 +805,9 @@ public final class TextEdgesTest {
                 x.would(row, hand, 3, 0);
                 x.would(row, hand, 9, 0);
             }
+            x.steady(hand, 0, 0);
+            x.likely(0, hand, 0, 0);
+            x.round(0, hand, 0, 0);
             x.cast(0, hand, 3);
         }
         x.print(0);
